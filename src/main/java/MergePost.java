@@ -150,7 +150,8 @@ public final class MergePost {
         return franking.costOf(franking.weightOf(20, 1), HIGHEST_ZONE);
     }
 
-    public int run(int template, int reason) throws IndexOutOfBoundsException, IllegalArgumentException, IllegalStateException {
+    public int run(int template, int reason)
+            throws IndexOutOfBoundsException, IllegalArgumentException, IllegalStateException {
         checkTemplate(template);
         if (reason < 0 || reason >= REASONS) {
             throw new IllegalArgumentException("reason out of range");
@@ -369,7 +370,7 @@ public final class MergePost {
         }
 
         private void addAll(Signs signs) {
-            int added = Math.min(signs.length, room());
+            int added = Math.min(signs.length, row.length - length);
             if (added > 0) {
                 System.arraycopy(signs.row, 0, row, length, added);
                 length += added;
@@ -419,7 +420,6 @@ public final class MergePost {
 
         private void clear() {
             signs.length = 0;
-            at = 0;
         }
 
         private char here() {

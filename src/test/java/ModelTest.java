@@ -15,6 +15,8 @@ public final class ModelTest {
     private Model model;
     private StringBuilder told;
     private int calls;
+    private int names;
+    private int streets;
 
     public static void main(String[] args) {
         ModelTest test = new ModelTest();
@@ -44,6 +46,8 @@ public final class ModelTest {
         model = new Model();
         told = new StringBuilder();
         calls = 0;
+        names = 1 + below(NAMES.length);
+        streets = 1 + below(STREETS.length);
         if (!oneIn(4)) {
             furnish();
         }
@@ -60,10 +64,15 @@ public final class ModelTest {
             int number = i;
             call("address(" + number + ")", () -> program.address(number), () -> model.address(number));
         }
-        for (int i = below(8); i < 8; i++) {
-            typed(someText(0));
+        for (int i = oneIn(3) ? below(8) : 0; i < 8; i++) {
+            typed(someTemplate());
             int number = i;
             call("template(" + number + ")", () -> program.template(number), () -> model.template(number));
+        }
+        for (int i = below(8); i > 0; i--) {
+            int template = below(8);
+            int reason = below(3);
+            call("run(" + template + "," + reason + ")", () -> program.run(template, reason), () -> model.run(template, reason));
         }
     }
 
@@ -98,15 +107,15 @@ public final class ModelTest {
     private String someAddress() {
         String zone = String.valueOf(oneIn(30) ? below(10) : below(3));
         String house = oneIn(3) ? "00" + below(10) : String.valueOf(oneIn(30) ? below(3000) : below(20));
-        String line = NAMES[below(NAMES.length)] + "," + STREETS[below(STREETS.length)] + "," + house + "," + zone + ","
+        String line = NAMES[below(names)] + "," + STREETS[below(streets)] + "," + house + "," + zone + ","
                 + below(oneIn(30) ? 300 : 100);
         return oneIn(20) ? spoilt(line) : line;
     }
 
     private String someTemplate() {
         String line = someText(0);
-        if (oneIn(12)) {
-            line = "x".repeat(below(97));
+        if (oneIn(6)) {
+            line = line + "x".repeat(below(97));
         }
         line = line.substring(0, Math.min(line.length(), 96));
         return oneIn(8) ? spoilt(line) : line;
@@ -117,9 +126,9 @@ public final class ModelTest {
         StringBuilder text = new StringBuilder();
         for (int parts = below(5); parts >= 0 && text.length() < 60; parts--) {
             int kind = below(9);
-            if (kind < 3) {
+            if (kind < (oneIn(3) ? 3 : 4)) {
                 text.append("abc xyz!?>".substring(0, 1 + below(9)));
-            } else if (kind < 5) {
+            } else if (kind < 6) {
                 text.append('<').append("nshzpm".charAt(below(6))).append('>');
             } else if (kind < 7) {
                 text.append('@').append(below(8));
@@ -142,6 +151,7 @@ public final class ModelTest {
         return spoilt.substring(0, Math.min(spoilt.length(), 96));
     }
 
+    /** One of the bound, or seldom a number that is none of it. */
     private int some(int bound) {
         if (oneIn(60)) {
             return new int[] {-1, bound, bound + 1, Integer.MIN_VALUE, Integer.MAX_VALUE, -bound}[below(6)];
@@ -156,12 +166,12 @@ public final class ModelTest {
 
     private void anyCall() {
         int kind = below(100);
-        if (kind < 25) {
-            furnishingCall(kind);
-        } else if (kind < 50) {
-            addressCall(kind - 25);
+        if (kind < 10) {
+            furnishingCall(below(25));
+        } else if (kind < 35) {
+            addressCall(kind - 10);
         } else {
-            runCall(kind - 50);
+            runCall(kind - 35);
         }
     }
 
@@ -209,23 +219,23 @@ public final class ModelTest {
     }
 
     private void runCall(int kind) {
-        int run = some(8);
-        if (kind < 3) {
+        int run = some(oneIn(2) ? 4 : 8);
+        if (kind < 2) {
             int base = some(oneIn(3) ? 1000000001 : 100);
             int step = some(oneIn(3) ? 1000000001 : 100);
             call("franking(" + base + "," + step + ")", () -> program.franking(base, step), () -> model.franking(base, step));
-        } else if (kind < 8) {
+        } else if (kind < 5) {
             int template = some(8);
-            int reason = some(8);
+            int reason = some(oneIn(3) ? 8 : 3);
             call("run(" + template + "," + reason + ")", () -> program.run(template, reason), () -> model.run(template, reason));
         } else if (kind < 12) {
             call("letters(" + run + ")", () -> program.letters(run), () -> model.letters(run));
-        } else if (kind < 14) {
+        } else if (kind < 14 && oneIn(calls < 200 ? 10 : 3)) {
             call("post(" + run + ")", () -> program.post(run), () -> model.post(run));
         } else if (kind < 16) {
             call("spent()", () -> program.spent(), () -> model.spent());
         } else {
-            letterCall(kind - 16, run, some(oneIn(2) ? 2 : 12));
+            letterCall((kind - 14) / 2, run, some(oneIn(2) ? 2 : 12));
         }
     }
 

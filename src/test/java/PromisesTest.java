@@ -14,12 +14,14 @@ public final class PromisesTest {
         typingRefused();
         templates();
         templateFaults();
+        templateBehindFaults();
         templateNesting();
         addresses();
         addressFaults();
         addressRefused();
         addressCount();
         cleaning();
+        cleaningAgain();
         apart();
         likeness();
         pairs();
@@ -180,6 +182,19 @@ public final class PromisesTest {
         fault("[ n=1?|]", 1);
     }
 
+    private static void templateBehindFaults() {
+        Desk desk = desk().with("a,b,1,1,1");
+        desk.post.run(0, 0);
+        due.is("3: a fault within choices", desk.template(0, "[m=1?x|[m=1?y"), -14);
+        due.is("3: a choice cannot go on behind a fault", desk.template(0, "z|]"), -2);
+        due.is("3: it is not told", desk.trouble(0, 0), "1: 0@0");
+        for (int i = 0; i < 6; i++) {
+            desk.template(1, "[m=1?");
+            due.is("3: " + i + " faults ahead", desk.template(0, "[m=1?[m=2?x|y]|]"), 16);
+            due.is("3: the text behind faults", desk.text(0, 0), "y");
+        }
+    }
+
     private static void templateNesting() {
         String open = times("[m=1?", 5);
         due.is("3: within 4 others, by the first texts", desk().template(0, open + times("|]", 5)), 35);
@@ -297,6 +312,15 @@ public final class PromisesTest {
         due.refused("6: not yet there", INDEX, () -> desk.post.cleaned(2, true, 0));
         due.refused("6: place -1", INDEX, () -> desk.post.cleaned(0, true, -1));
         due.refused("6: place far below", INDEX, () -> desk.post.cleaned(0, false, Integer.MIN_VALUE));
+    }
+
+    private static void cleaningAgain() {
+        Desk desk = desk().with("Long Name 12,Long Street,1,1,1");
+        for (String name : new String[] {"Abcdef", "-", "Xy", "abcdefghijkl", "q"}) {
+            desk.address(0, name + "," + name + ",1,1,1");
+            due.is("6: the name now, " + name, desk.cleaned(0, false), name.toLowerCase().replace("-", ""));
+            due.is("6: the street now, " + name, desk.cleaned(0, true), name.toLowerCase().replace("-", ""));
+        }
     }
 
     private static void apartNames(String first, String second, int apart) {
@@ -493,6 +517,16 @@ public final class PromisesTest {
         desk.post.match(2, 0);
         text(desk, "<n>;<s>;<h>;<z>;<p>;<m>", "Cy & Cy;Low Rd;50;3;110;2");
         text(desk, "", "");
+        desk.address(1, "Bo,Elm,100,1,10");
+        due.is("16: numbers of zeros behind", desk.post.match(0, 2) ? 1 : 0, 0);
+        desk.address(0, "Cy,Elm,010,1,00");
+        text(desk, "<h> <p>", "10 0");
+        desk.address(0, "Cy,Elm,100,1,10");
+        text(desk, "<h> <p>", "100 10");
+        desk.address(0, "Cy,Elm,000,0,01");
+        text(desk, "<h> <z> <p>", "0 0 1");
+        desk.address(0, "Cy,Low Rd,050,3,90");
+        desk.post.match(2, 0);
         text(desk, "?>=,", "?>=,");
         desk.telling(1, "(@2)").telling(2, "<m>@3@3").telling(3, "");
         text(desk, "@1-@2@3@1", "(2)-2(2)");
@@ -524,9 +558,27 @@ public final class PromisesTest {
             longest.post.match(0, i);
         }
         longest.post.run(0, 0);
+        fourDigits();
         due.is("16: names of 177 signs", longest.text(0, 0), "aaa");
         longest.telling(0, "x<n>");
         due.is("18: names of 177 signs", longest.trouble(0, 0), "3: 0@1");
+    }
+
+    private static void fourDigits() {
+        Desk desk = full();
+        for (int i = 0; i < 12; i++) {
+            desk.address(i, "Ann,Elm,1,0," + (i < 10 ? 99 : i < 11 ? 10 : 0));
+        }
+        for (int i = 1; i < 12; i++) {
+            desk.post.match(i - 1, i);
+        }
+        desk.telling(0, "<p> <m>").post.run(0, 0);
+        due.is("16: points of 1000", desk.text(0, 0), "1000 12");
+        desk.post.match(10, 11);
+        due.is("16: points of 1000 of 11", desk.text(0, 0), "1000 11");
+        due.is("16: points of none", desk.text(0, 1), "0 1");
+        desk.post.match(9, 10);
+        due.is("16: points of 990", desk.text(0, 0), "990 10");
     }
 
     private static void letterNumbers() {
@@ -772,6 +824,9 @@ public final class PromisesTest {
         }
         desk.telling(0, times("@1", 47) + "x");
         due.is("16: a sign behind many", desk.text(0, 11), "x");
+        desk.telling(0, "x" + times("@1", 46) + "y").telling(4, times("[m=1?|]", 13));
+        due.is("16: many between signs", desk.text(0, 11), "xy");
+        desk.telling(0, times("@1", 47) + "x");
         desk.telling(4, times("[m=1?|]", 13) + "@5");
         due.is("18: deep behind many", desk.trouble(0, 0), "1: 0@0 1@0 2@0 3@0 4@91");
         due.is("19: none of many is posted", desk.post.post(0), 0);
