@@ -51,6 +51,11 @@ public final class FaceTest {
             }
         }
         due.is("the face", String.join("\n", found), String.join("\n", new TreeSet<>(Arrays.asList(FACE.split("\n")))));
+        for (Class<?> inside : MergePost.class.getDeclaredClasses()) {
+            for (Method method : inside.getDeclaredMethods()) {
+                hidden.add(method.getName());
+            }
+        }
         for (Method method : MergePost.class.getMethods()) {
             due.is("a private " + method.getName(), hidden.contains(method.getName()) ? 1 : 0, 0);
         }
