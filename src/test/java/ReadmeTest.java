@@ -30,7 +30,6 @@ public final class ReadmeTest {
         }
         listOfTests(readme);
         due.is("README.md tells of .ci/run", readme.contains("`.ci/run`") ? 1 : 0, 1);
-        due.is(".ci/run can be run", Files.isExecutable(Path.of(".ci/run")) ? 1 : 0, 1);
         due.end();
     }
 
